@@ -491,7 +491,7 @@ public final class StyleCascade {
         }
 
         boolean declares(int rule, int property) {
-            return entry(rule, property, NUMBER) != NONE || refers(rule, property);
+            return entry(rule, property, NUMBER) != NONE || entry(rule, property, CUSTOM) != NONE;
         }
 
         boolean haveScope(int element) {
@@ -1026,7 +1026,9 @@ public final class StyleCascade {
         }
 
         private void demand(char sign) {
-            if (!accepts(sign)) {
+            if (current() == sign) {
+                place++;
+            } else {
                 failForm();
             }
         }

@@ -14,7 +14,7 @@ import java.util.regex.Pattern;
  * values by recursion, texts by regular expressions, states by whole copies.
  */
 public final class ModelTest {
-    private static final int RUNS = 3000;
+    private static final int RUNS = 2000;
     private static final int CALLS = 512;
     private static final int INVALID = -11;
     private static final int IMPOSSIBLE = -12;

@@ -160,6 +160,12 @@ public final class PromiseTest {
         x.drop(0);
         due("3 the last but the root", x.remove(), 1);
         due("3 root alone again", x.remove(), IMPOSSIBLE);
+        x.add(0, 0, 0);
+        anyRule(x);
+        x.rule(-1, 0, -1, 0, 1, 0);
+        due("3 the scope of a later rule", x.remove(), IMPOSSIBLE);
+        x.drop(1);
+        due("3 and no more", x.remove(), 1);
         due("3 its number is used again", x.add(0, 3, 4), 1);
         due("3 with its own kind", x.element(1, 1), 3);
         due("3 with its own classes", x.element(1, 2), 4);
@@ -237,6 +243,9 @@ public final class PromiseTest {
         due("6 text", x.count(6), 2);
         x.declare(1, 9, 3);
         due("6 declarations then", x.count(2), 4);
+        x.refer(1, 0, 8, -1);
+        due("6 a plain property refers too", x.count(3), 3);
+        x.undeclare(1, 0);
         due("6 references then", x.count(3), 2);
         due("6 cycles then", x.count(4), 4);
         x.drop(0);
@@ -291,6 +300,22 @@ public final class PromiseTest {
         due("7 the drop", x.undo(), 4);
         due("7 its scope again", x.ruleOf(0, 4), 1);
         due("7 its declaration again", x.declared(0, 3, 0), 4);
+        x.rule(2, 2, 2, 2, -1, 0);
+        x.refer(1, 5, 9, 6);
+        x.drop(0);
+        x.undo();
+        due("7 the first rule's kind", x.ruleOf(0, 0), 1);
+        due("7 the second rule's kind", x.ruleOf(1, 0), 2);
+        due("7 the first rule's number", x.declared(0, 3, 0), 4);
+        due("7 the second rule's fallback", x.declared(1, 5, 2), 6);
+        x.add(1, 4, 4);
+        x.remove();
+        x.add(0, 5, 5);
+        x.undo();
+        x.undo();
+        due("7 the parent of before", x.element(2, 0), 1);
+        due("7 the kind of before", x.element(2, 1), 4);
+        due("7 the classes of before", x.element(2, 2), 4);
     }
 
     private static void historyOfFive() {
@@ -351,6 +376,14 @@ public final class PromiseTest {
         x.drop(15);
         anyRule(x);
         due("8 a new one has none", x.declared(15, 15, 0), MISSING);
+        x.refer(15, 15, 14, 3);
+        x.drop(15);
+        anyRule(x);
+        for (int property = 0; property < 16; property++) {
+            for (int what = 0; what < 3; what++) {
+                due("8 not even a fallback", x.declared(15, property, what), MISSING);
+            }
+        }
     }
 
     private static void drop() {
@@ -433,6 +466,9 @@ public final class PromiseTest {
         due("12 gone", x.declared(0, 0, 0), MISSING);
         due("12 no winner", x.winner(0, 0), MISSING);
         due("12 reference", x.undeclare(0, 8), 0);
+        for (int what = 0; what < 3; what++) {
+            due("12 nothing is left", x.declared(0, 8, what), MISSING);
+        }
         due("12 once more", x.undeclare(0, 8), IMPOSSIBLE);
         due("12 property -1", x.undeclare(0, -1), INVALID);
         due("12 property 16", x.undeclare(0, 16), INVALID);
@@ -608,6 +644,16 @@ public final class PromiseTest {
         duel("a kind", new int[] {3, 0, -1, 0, -1, 0}, new int[] {-1, 0, -1, 0, -1, 0}, 0, 4);
         duel("an ancestor", new int[] {-1, 0, 0, 0, -1, 0}, new int[] {-1, 0, -1, 0, -1, 0}, 0, 4);
         duel("order", new int[] {3, 1, -1, 2, 2, 1}, new int[] {-1, 2, 1, 2, 2, 1}, 1, 5);
+        StyleCascade deep = new StyleCascade();
+        for (int parent = 0; parent < 15; parent++) {
+            deep.add(parent, 0, 0);
+        }
+        deep.rule(-1, 0, -1, 0, 0, 0);
+        deep.rule(0, 0, 0, 0, -1, 0);
+        deep.declare(0, 3, 1);
+        deep.declare(1, 3, 2);
+        due("17 the farthest scope over none", deep.winner(15, 3), 0);
+        due("18 by the scope", deep.why(15, 3, 1, 1), 3);
         StyleCascade x = chain();
         x.rule(1, 0, -1, 0, -1, 1);
         x.declare(0, 2, 5);
@@ -870,6 +916,9 @@ public final class PromiseTest {
             due("24 part " + what, x.ruleOf(0, what), parts[what]);
         }
         due("24 zero", x.declared(0, 0, 0), 0);
+        due("24 a number does not refer", x.declared(0, 0, 1), MISSING);
+        due("24 a number has no fallback", x.declared(0, 0, 2), MISSING);
+        due("24 a reference has no number", x.declared(0, 8, 0), MISSING);
         due("24 999", x.declared(0, 7, 0), 999);
         due("24 reference", x.declared(0, 8, 1), 9);
         due("24 without a fallback", x.declared(0, 8, 2), MISSING);
