@@ -720,7 +720,8 @@ public final class StyleCascade {
 
     /** What follows from a state: kept until the next change, so that only the first question pays. */
     private static final class Outcome {
-        private static final int NO_LIMIT = Integer.MAX_VALUE;
+        // Above every strength that there is.
+        private static final int NO_LIMIT = 1 << 30;
 
         private boolean isFresh;
         private int elements;

@@ -1,0 +1,45 @@
+import java.io.IOException;
+import java.nio.file.Files;
+import java.nio.file.Path;
+import java.util.ArrayList;
+import java.util.List;
+import java.util.regex.Matcher;
+import java.util.regex.Pattern;
+
+/** No section of the document that promises something is left without a test by sentence. */
+public final class SectionsTest {
+    private static final Path DOCUMENT = Path.of("..", "shared", "DOC.md");
+    private static final Path TESTS = Path.of("src", "test", "java");
+    private static final Pattern HEADING = Pattern.compile("(?m)^(?:### (.+)|## (Promise .+))$");
+    private static final Pattern OPENED = Pattern.compile("section\\(\"([^\"]+)\"\\);");
+
+    public static void main(String[] args) throws IOException {
+        List<String> opened = new ArrayList<>();
+        try (var files = Files.newDirectoryStream(TESTS, "*.java")) {
+            for (Path file : files) {
+                opened.addAll(named(OPENED, Files.readString(file)));
+            }
+        }
+        List<String> headings = named(HEADING, Files.readString(DOCUMENT));
+        int wrong = headings.size() < 30 ? 1 : 0;
+        for (String heading : headings) {
+            if (!opened.contains(heading)) {
+                wrong++;
+                System.out.println("there is no test of the section " + heading);
+            }
+        }
+        System.out.println(headings.size() + " sections, " + (wrong == 0 ? "each has its test" : "not all have tests"));
+        if (wrong != 0) {
+            System.exit(1);
+        }
+    }
+
+    private static List<String> named(Pattern pattern, String text) {
+        List<String> names = new ArrayList<>();
+        Matcher found = pattern.matcher(text);
+        while (found.find()) {
+            names.add(found.group(1) != null ? found.group(1) : found.group(2));
+        }
+        return names;
+    }
+}
