@@ -1,6 +1,5 @@
 import java.io.IOException;
 import java.lang.management.ManagementFactory;
-import java.lang.reflect.Constructor;
 import java.lang.reflect.Field;
 import java.lang.reflect.Member;
 import java.lang.reflect.Method;
@@ -17,19 +16,13 @@ import java.util.regex.Pattern;
 /** The public face, and the rules of ../shared/LANGUAGE.md that can be seen from outside. */
 public final class LanguageTest {
     private static final Path SOURCE = Path.of("src", "main", "java", "StyleCascade.java");
-    private static final Set<String> METHODS = Set.of("add(3)", "remove(0)", "dress(3)", "element(2)",
-            "count(1)", "undo(0)", "rule(6)", "drop(1)", "declare(3)", "refer(4)", "undeclare(2)",
-            "ruleOf(2)", "declared(3)", "matches(2)", "value(2)", "winner(2)", "why(4)", "from(2)",
-            "cycle(2)", "type(1)", "clearText(0)", "fault(0)", "read(0)");
-    private static final Set<String> CONSTANTS = Set.of("INVALID_ARGUMENT", "NOT_POSSIBLE",
-            "LIMIT_REACHED", "NOT_FOUND");
-
     private static int wrong = 0;
 
-    public static void main(String[] args) throws IOException {
+    public static void main(String[] args) throws IOException, NoSuchMethodException {
         face();
         classesInside();
         source();
+        noCallThrows();
         room();
         System.out.println(wrong == 0 ? "the language is kept to" : wrong + " faults of language");
         if (wrong != 0) {
@@ -44,44 +37,42 @@ public final class LanguageTest {
         }
     }
 
-    private static void face() {
+    /** That each line of the face stands in the source is told by OutlineTest; here, that nothing else does. */
+    private static void face() throws IOException, NoSuchMethodException {
         Class<?> type = StyleCascade.class;
-        expect(Modifier.isPublic(type.getModifiers()) && Modifier.isFinal(type.getModifiers()), "public final");
         expect(type.getPackageName().isEmpty(), "no package");
-        List<Member> open = new ArrayList<>();
-        Set<String> found = new TreeSet<>();
+        List<Method> calls = Face.calls();
+        Set<String> names = new TreeSet<>();
+        for (Method call : calls) {
+            names.add(call.getName());
+        }
+        List<Member> beside = new ArrayList<>();
         for (Method method : type.getDeclaredMethods()) {
-            boolean isFace = Modifier.isPublic(method.getModifiers());
-            if (isFace) {
-                found.add(method.getName() + "(" + method.getParameterCount() + ")");
-                expect(method.getReturnType() == int.class, method + " returns int");
-                expect(!Modifier.isStatic(method.getModifiers()), method + " is no static one");
-                for (Class<?> parameter : method.getParameterTypes()) {
-                    expect(parameter == int.class, method + " takes ints");
-                }
-            } else {
-                open.add(method);
-                for (String face : METHODS) {
-                    expect(!face.startsWith(method.getName() + "("), method + " bears a public name");
-                }
+            if (!calls.contains(method)) {
+                beside.add(method);
+                expect(!names.contains(method.getName()), method + " bears a public name");
             }
         }
-        expect(found.equals(new TreeSet<>(METHODS)), "the methods of the face: " + found);
         for (Field field : type.getDeclaredFields()) {
-            if (Modifier.isPublic(field.getModifiers())) {
-                expect(CONSTANTS.contains(field.getName()), field + " is a constant of the face");
-                expect(field.getType() == int.class && Modifier.isStatic(field.getModifiers())
-                        && Modifier.isFinal(field.getModifiers()), field + " is a constant");
-            } else {
-                open.add(field);
+            if (!Face.lines().contains("public static final int " + field.getName() + " = " + number(field) + ";")) {
+                beside.add(field);
             }
         }
-        expect(type.getFields().length == CONSTANTS.size(), "all constants of the face");
-        Constructor<?>[] constructors = type.getDeclaredConstructors();
-        expect(constructors.length == 1 && Modifier.isPublic(constructors[0].getModifiers())
-                && constructors[0].getParameterCount() == 0, "one public constructor");
-        for (Member member : open) {
+        expect(type.getDeclaredConstructors().length == 1, "one constructor");
+        for (Member member : beside) {
             expect(Modifier.isPrivate(member.getModifiers()), member + " is private");
+        }
+    }
+
+    /** The number of a constant of the face; none for what is private. */
+    private static String number(Field field) {
+        if (!Modifier.isPublic(field.getModifiers()) || !Modifier.isStatic(field.getModifiers())) {
+            return "";
+        }
+        try {
+            return String.valueOf(field.get(null));
+        } catch (IllegalAccessException e) {
+            return "";
         }
     }
 
@@ -129,6 +120,38 @@ public final class LanguageTest {
         Set<String> guarded = Set.of("cells[index]", "ring[index]", "int[Math.max(length, 0)]", "State[MOST_STATES]");
         while (access.find()) {
             expect(guarded.contains(access.group()), "array: " + access.group());
+        }
+    }
+
+    /** Neither with any arguments nor behind the last call of the document; an exception ends the test. */
+    private static void noCallThrows() throws IOException, NoSuchMethodException {
+        List<Method> calls = Face.calls();
+        for (int run = 0; run < 200; run++) {
+            Dice dice = new Dice(run);
+            StyleCascade x = new StyleCascade();
+            for (int turn = 0; turn < 3000; turn++) {
+                int[] arguments = new int[6];
+                for (int number = 0; number < arguments.length; number++) {
+                    arguments[number] = anyNumber(dice);
+                }
+                Face.answer(calls.get(dice.below(calls.size())), x, arguments);
+            }
+        }
+    }
+
+    /** Mostly one that a call may take. */
+    private static int anyNumber(Dice dice) {
+        switch (dice.below(8)) {
+            case 0:
+                return dice.around(-1, 1000);
+            case 1:
+                return dice.around(Integer.MIN_VALUE / 2, Integer.MAX_VALUE / 2);
+            case 2:
+                return dice.around(8, 15);
+            case 3:
+                return "k.<@L!{}=$/;0189".charAt(dice.below(16));
+            default:
+                return dice.around(0, 3);
         }
     }
 

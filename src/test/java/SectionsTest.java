@@ -6,11 +6,12 @@ import java.util.List;
 import java.util.regex.Matcher;
 import java.util.regex.Pattern;
 
-/** No section of the document that promises something is left without a test by sentence. */
+/** No section of the document that says what is due is left without a test by sentence. */
 public final class SectionsTest {
     private static final Path DOCUMENT = Path.of("..", "shared", "DOC.md");
     private static final Path TESTS = Path.of("src", "test", "java");
-    private static final Pattern HEADING = Pattern.compile("(?m)^(?:### (.+)|## (Promise .+))$");
+    /** A heading with words of its own below it, not only with headings. */
+    private static final Pattern HEADING = Pattern.compile("(?m)^##+ (.+)\\n\\s*(?=[^#\\s])");
     private static final Pattern OPENED = Pattern.compile("section\\(\"([^\"]+)\"\\);");
 
     public static void main(String[] args) throws IOException {
@@ -21,7 +22,8 @@ public final class SectionsTest {
             }
         }
         List<String> headings = named(HEADING, Files.readString(DOCUMENT));
-        int wrong = headings.size() < 30 ? 1 : 0;
+        headings.remove("Not promised");
+        int wrong = headings.size() < 33 ? 1 : 0;
         for (String heading : headings) {
             if (!opened.contains(heading)) {
                 wrong++;
@@ -38,7 +40,7 @@ public final class SectionsTest {
         List<String> names = new ArrayList<>();
         Matcher found = pattern.matcher(text);
         while (found.find()) {
-            names.add(found.group(1) != null ? found.group(1) : found.group(2));
+            names.add(found.group(1));
         }
         return names;
     }

@@ -1,9 +1,13 @@
+import java.io.IOException;
+import java.lang.reflect.Method;
+import java.util.List;
+
 /** What the document says ahead of its promises: elements, rules, declarations and values. */
 public final class TermsTest extends Sentences {
     private static final int[] UNMATCHED = {5, 0, -1, 0, -1, 0};
 
-    public static void main(String[] args) {
-        calls();
+    public static void main(String[] args) throws IOException, NoSuchMethodException {
+        numbers();
         elements();
         rules();
         matching();
@@ -15,21 +19,18 @@ public final class TermsTest extends Sentences {
         finish();
     }
 
-    private static void calls() {
-        section("What it is");
-        holds("An object is used for at most 512 calls after it has been made", x -> {
-            for (int call = 1; call <= 506; call++) {
-                due("dress as call " + call, x.dress(0, call % 6, call % 16), call == 1 ? 0 : look(call - 1));
+    private static void numbers() throws IOException, NoSuchMethodException {
+        section("Terms");
+        List<Method> calls = Face.calls();
+        holds("All numbers are whole numbers.", x -> {
+            for (Method call : calls) {
+                due(call.getName() + " answers an int", call.getReturnType() == int.class ? 1 : 0, 1);
+                for (Class<?> taken : call.getParameterTypes()) {
+                    due(call.getName() + " takes an int", taken == int.class ? 1 : 0, 1);
+                }
             }
-            for (int left = 4; left >= 0; left--) {
-                due("undo", x.undo(), left);
-            }
-            due("the call 512", x.element(0, 2), 501 % 16);
         });
-    }
-
-    private static int look(int call) {
-        return 16 * (call % 6) + call % 16;
+        sectionEnds();
     }
 
     // ---- elements

@@ -17,9 +17,9 @@ abstract class Sentences {
 
     private static final Path DOCUMENT = Path.of("..", "shared", "DOC.md");
     private static final String HEADING = "(?m)^##+ ";
-    // The face is held by LanguageTest, and the headings of the interface bind nothing here.
-    private static final String NOT_HELD =
-            "`(int \\w+|StyleCascade)\\([^)]*\\)`:|Ahead of the calls [^.]*? the interface says: ---- \\w+\\.";
+    // OutlineTest holds the face by its own section, and the headings of the interface bind nothing here.
+    private static final String NOT_HELD = "`(int \\w+|StyleCascade)\\([^)]*\\)`:|```java"
+            + "|Ahead of the calls [^.]*? the interface says: ---- \\w+\\.";
 
     private static String title = "";
     private static String words = "";
